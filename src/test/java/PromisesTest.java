@@ -217,6 +217,16 @@ public final class PromisesTest {
         due("3: nothing refused", x.count(11) + x.count(12) + x.count(13) + x.count(14) + x.count(16), 0);
         shop("y05;tt0;g00590;g00380;s0500;g00399;y09;");
         due("3: SET as it stood then", x.thing(0, 2), 5);
+        shop("y05;tt0;tt0;g00380;g10380;s0104;s1101;");
+        due("3: MINUTES and PRESS", x.thing(0, 2) * 10 + x.thing(1, 2), 55);
+        shop("y05;tt0;g00380;s0111;");
+        due("3: PRESS too much", x.thing(0, 2), 5);
+        shop("y05;tt0;g00380;s0151;");
+        due("3: PRESS not too much", x.thing(0, 2), 3);
+        shop("tt0;tt0;tt0;");
+        due("3: letters of an earlier SHOP do not help", tell("tt0"), -1003);
+        due("3: nor at all", tell(""), -1000);
+        due("3: nor behind a whole one", tell("tt0;"), 1);
     }
 
     /** Promise 4. */
@@ -534,6 +544,10 @@ public final class PromisesTest {
         due("20: a DOLL", x.most(1), 1);
         shop("td2;y09;g00990;g00330;", "tp0;v1000911;");
         due("20: best left", x.most(1), 0);
+        shop("tt0;tp0;tw0;");
+        due("20: none GLAD", x.most(0) * 10 + x.most(1), 0);
+        shop("tt0;y01;v0000150;g00051;");
+        due("20: 1 more", x.most(0) * 10 + x.most(1), 511);
         shop("tp1;y09;g00090;g00990;g00895;");
         // 8 counts 94: SET in 8 by 5 MINUTES and more; how GLAD is 95.
         due("20: as GLAD as in its YEAR", x.most(0), 95);
@@ -558,6 +572,14 @@ public final class PromisesTest {
         x.pours(20);
         x.glues(1, 0, 0);
         due("21: a SET one stays", x.byMinutes(99), 129);
+        due("21: nothing of earlier calls", x.byMinutes(0), 0);
+        x.makes(1, 10, 5);
+        due("21: a SET one as GLAD as it is", x.byMinutes(0), 5);
+        due("21: a SET one as GLAD as it is", x.byMinutes(99), 134);
+        shop("tt0;td1;y05;g10544;g10433;g00050;g00540;");
+        due("21: a DOLL as NOW", x.byMinutes(0), 40 + 44);
+        shop("tw1;tt0;y05;g00544;g10540;");
+        due("21: a THUMB left, not SET in 4", x.byMinutes(0), 40 + 44);
         shop("tw0;y01;g00150;");
         due("21: left rather", x.byMinutes(99), 50);
         shop("td1;y01;g00090;g00110;");
@@ -613,10 +635,13 @@ public final class PromisesTest {
         due("23: the one is SET", x.together(0, 1, 0), -3);
         due("23: the other is SET", x.together(1, 0, 1), -3);
         due("23: neither", x.together(1, 2, 1), 9);
-        // DOLL 3 in 7 by 0, in 5 by 10; DOLL 4 in 7 by 10, in 5 by 0: both by 10.
+        // DOLL 3 in 7 by 0, in 5 by 10; THUMB 5 in 5 by 0.
         shop("td3;tw5;y10;v0001010;g00720;g00530;v1001030;g10720;g10510;");
-        due("23: of several", x.together(0, 1, 0), 10);
-        due("23: the earliest", x.together(0, 1, 1), 5);
+        due("23: a DOLL and a THUMB", x.together(0, 1, 0), 10);
+        due("23: in 5", x.together(1, 0, 1), 5);
+        shop("td2;tt0;y02;g00020;g10020;");
+        due("23: in YEAR 0", x.together(0, 1, 0), 10);
+        due("23: YEAR 0", x.together(0, 1, 1), 0);
     }
 
     /** Promise 24. */
@@ -720,6 +745,9 @@ public final class PromisesTest {
         due("28: then", x.bestWash(), 1);
         x.washes(1);
         due("28: none makes it more", x.bestWash(), -9);
+        x.makes(0, 6, 61);
+        due("28: by 1, the first of all", x.bestWash(), 0);
+        due("29: by 1", x.sour(), 1);
         due("27: counted", x.count(11) * 10 + x.count(13), 21);
     }
 
@@ -814,6 +842,11 @@ public final class PromisesTest {
         x.makes(1, 9, 99);
         x.makes(1, 8, 98);
         due("33: the same always", x.mean(1, 8, 20, 0), 99);
+        shop("tt0;tt0;y08;g00064;");
+        due("33: 8 of 8 by 1 in 2", x.mean(0, 8, 2, 0) * 10 + x.mean(0, 8, 2, 1), 14);
+        x.makes(0, 0, 0);
+        x.makes(0, 1, 32);
+        due("33: 7 and 8 of 8, 9 of 256", x.mean(0, 8, 2, 0) * 10 + x.mean(0, 8, 2, 1), 98);
         due("33: NOBODY first", x.mean(2, -1, 21, 2), 4000000000000000001L);
         due("33: BELOW first", x.mean(0, -1, 21, 2), 4000000000000000004L);
         due("33: BELOW first", x.mean(0, 9, 1, 2), 4000000000000000004L);
@@ -878,6 +911,7 @@ public final class PromisesTest {
         due("35: 8 as 40, the later", x.mended(0, 8, 15), 40);
         due("35: NOW", x.mended(0, 9, 15), 50);
         due("35: NOW alone", x.mended(0, 9, 4), 0);
+        due("35: by no MINUTES", x.mended(0, 9, 0), 0);
         due("35: out of REACH", x.mended(0, 7, 9), -9);
         due("35: after NOW", x.mended(0, 10, 99), -9);
         due("35: a CHAIR, the earlier", x.mended(1, 6, 15), 40);
@@ -999,6 +1033,13 @@ public final class PromisesTest {
         due("41: GLAD", x.glad(0, 5), 33);
         x.now(2);
         due("41: once more", x.on(), 5);
+        x.now(3);
+        tell("tt0;v2001199;h02;s2000;");
+        due("41: without what came behind", x.on(), 5);
+        due("41: it is gone", x.thing(2, 0), -1);
+        tell("tc1;");
+        due("41: what comes is as new", x.glad(2, 0) + x.glad(2, 11) + x.halves(0, 2), 0);
+        due("41: what comes is not SET", x.thing(2, 2), -9);
         x.now(3);
         due("40: another", x.image(), 3);
         x.now(4);
