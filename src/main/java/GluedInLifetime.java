@@ -114,11 +114,9 @@ public final class GluedInLifetime {
         if (kind < PLAIN || kind > THUMB) {
             return refuse(OTHER);
         }
-        if (figure < 0) {
-            return refuse(BELOW);
-        }
-        if (figure > MOST_FIGURE) {
-            return refuse(ROOM);
+        int refusal = outside(figure, 0, MOST_FIGURE);
+        if (refusal != 0) {
+            return refuse(refusal);
         }
         Thing it = here.at(thing);
         int was = 10 * it.kind + it.figure;
@@ -131,11 +129,9 @@ public final class GluedInLifetime {
         if (here.lacks(thing) || noYear(year)) {
             return refuse(NOBODY);
         }
-        if (v < 0) {
-            return refuse(BELOW);
-        }
-        if (v > MOST_GLAD) {
-            return refuse(ROOM);
+        int refusal = outside(v, 0, MOST_GLAD);
+        if (refusal != 0) {
+            return refuse(refusal);
         }
         Thing it = here.at(thing);
         int was = it.gladIn(year);
@@ -161,11 +157,9 @@ public final class GluedInLifetime {
     }
 
     public int hands(int v) {
-        if (v < 1) {
-            return refuse(BELOW);
-        }
-        if (v > MOST_HANDS) {
-            return refuse(ROOM);
+        int refusal = outside(v, 1, MOST_HANDS);
+        if (refusal != 0) {
+            return refuse(refusal);
         }
         int were = here.hands;
         here.hands = v;
@@ -173,11 +167,9 @@ public final class GluedInLifetime {
     }
 
     public int pours(int v) {
-        if (v < 0) {
-            return refuse(BELOW);
-        }
-        if (v > MOST_DROPS) {
-            return refuse(ROOM);
+        int refusal = outside(v, 0, MOST_DROPS);
+        if (refusal != 0) {
+            return refuse(refusal);
         }
         int were = here.drops;
         here.drops = v;
@@ -185,14 +177,9 @@ public final class GluedInLifetime {
     }
 
     public int glues(int thing, int minutes, int press) {
-        if (here.lacks(thing)) {
-            return refuse(NOBODY);
-        }
-        if (minutes < 0 || press < 0) {
-            return refuse(BELOW);
-        }
-        if (minutes > MOST_MINUTES || press > MOST_PRESS) {
-            return refuse(ROOM);
+        int refusal = heldRefusal(thing, minutes, press);
+        if (refusal != 0) {
+            return refuse(refusal);
         }
         if (!here.glue(thing, minutes, press)) {
             return refuse(STATE);
@@ -214,14 +201,9 @@ public final class GluedInLifetime {
     }
 
     public int would(int thing, int minutes, int press, int what) {
-        if (here.lacks(thing)) {
-            return refuse(NOBODY);
-        }
-        if (minutes < 0 || press < 0) {
-            return refuse(BELOW);
-        }
-        if (minutes > MOST_MINUTES || press > MOST_PRESS) {
-            return refuse(ROOM);
+        int refusal = heldRefusal(thing, minutes, press);
+        if (refusal != 0) {
+            return refuse(refusal);
         }
         if (what < 0 || what > 2) {
             return refuse(OTHER);
@@ -273,11 +255,9 @@ public final class GluedInLifetime {
     }
 
     public int byMinutes(int m) {
-        if (m < 0) {
-            return refuse(BELOW);
-        }
-        if (m > MOST_MINUTES) {
-            return refuse(ROOM);
+        int refusal = outside(m, 0, MOST_MINUTES);
+        if (refusal != 0) {
+            return refuse(refusal);
         }
         for (int steps = 0; steps <= STEPS; steps++) {
             mostBySteps[steps] = 0;
@@ -388,11 +368,9 @@ public final class GluedInLifetime {
         if (here.lacks(thing)) {
             return refuse(NOBODY);
         }
-        if (minutes < 0) {
-            return refuse(BELOW);
-        }
-        if (minutes > MOST_MINUTES) {
-            return refuse(ROOM);
+        int refusal = outside(minutes, 0, MOST_MINUTES);
+        if (refusal != 0) {
+            return refuse(refusal);
         }
         for (int first = 0; first <= 4; first++) {
             for (int other = 0; other <= 4; other++) {
@@ -455,11 +433,9 @@ public final class GluedInLifetime {
         if (here.lacks(thing) || noYear(year)) {
             return refuse(NOBODY);
         }
-        if (minutes < 0) {
-            return refuse(BELOW);
-        }
-        if (minutes > MOST_MINUTES) {
-            return refuse(ROOM);
+        int refusal = outside(minutes, 0, MOST_MINUTES);
+        if (refusal != 0) {
+            return refuse(refusal);
         }
         probe.copyFrom(here.at(thing));
         for (int v = 0; v <= MOST_GLAD; v++) {
@@ -498,11 +474,9 @@ public final class GluedInLifetime {
     }
 
     public int lots(int n, int z, int what) {
-        if (n < 1) {
-            return refuse(BELOW);
-        }
-        if (n > 20) {
-            return refuse(ROOM);
+        int refusal = outside(n, 1, 20);
+        if (refusal != 0) {
+            return refuse(refusal);
         }
         if (notOneOfTwo(what)) {
             return refuse(OTHER);
@@ -569,6 +543,25 @@ public final class GluedInLifetime {
 
     private static boolean notOneOfTwo(int what) {
         return what < 0 || what > 1;
+    }
+
+    /** 0: nothing is refused. */
+    private static int outside(int v, int least, int most) {
+        if (v < least) {
+            return BELOW;
+        }
+        return v > most ? ROOM : 0;
+    }
+
+    /** 0: nothing is refused. */
+    private int heldRefusal(int thing, int minutes, int press) {
+        if (here.lacks(thing)) {
+            return NOBODY;
+        }
+        if (minutes < 0 || press < 0) {
+            return BELOW;
+        }
+        return minutes > MOST_MINUTES || press > MOST_PRESS ? ROOM : 0;
     }
 
     /** 0: nothing is refused. */
@@ -666,7 +659,7 @@ public final class GluedInLifetime {
 
     private int draw(int m) {
         seed = seed * 1664525 + 1013904223;
-        return m < 1 ? 0 : (seed & Integer.MAX_VALUE) / 256 % m;
+        return m < 1 ? 0 : (seed & 0x7fffffff) / 256 % m;
     }
 
     /** A fraction's part in least terms: 0 above the line, else below it. */

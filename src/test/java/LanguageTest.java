@@ -8,10 +8,9 @@ import java.util.regex.Pattern;
 public final class LanguageTest {
     private static final String[] WORDS = {"import", "package", "throw", "throws", "try", "catch", "finally",
         "synchronized", "assert", "protected", "volatile", "transient", "native", "record", "var", "yield",
-        "Object", "System\\s*\\.\\s*(?!arraycopy)\\w+", "Thread", "Random", "\\w+Exact", "instanceof",
-        "hashCode", "toString", "while"};
+        "Object", "System\\s*\\.\\s*(?!arraycopy)\\w+", "Thread", "Random", "\\w+Exact", "hashCode"};
     private static final Pattern CALLED = Pattern.compile("(Math|Integer|Long|String|Character|Arrays|List)\\.(\\w+)");
-    private static final List<String> LIBRARY = List.of("Math.max", "Math.min", "Integer.MAX_VALUE");
+    private static final List<String> LIBRARY = List.of("Math.max", "Math.min");
 
     private final Checks checks = new Checks();
     private final String code;
@@ -47,7 +46,8 @@ public final class LanguageTest {
         }
         checks.holds("no static block", !Pattern.compile("static\\s*\\{").matcher(code).find());
         checks.holds("no text joined by +", !Pattern.compile("\"\"\\s*\\+|\\+\\s*\"\"").matcher(code).find());
-        checks.holds("static fields are final", !Pattern.compile("static\\s+(?!final|class)\\w+(\\[\\])?\\s+\\w+\\s*[=;]").matcher(code).find());
+        Pattern loose = Pattern.compile("static\\s+(?!final|class)\\w+(\\[\\])?\\s+\\w+\\s*[=;]");
+        checks.holds("static fields are final", !loose.matcher(code).find());
     }
 
     private void libraryAlone() {

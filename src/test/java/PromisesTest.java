@@ -381,7 +381,8 @@ public final class PromisesTest {
 
     /** Promise 15: the YEAR and REACH of each KIND. */
     private void wouldByKind() {
-        shop("tt2;tc2;td2;tp2;tf2;tw2;y08;", "v0030650;v1030650;v2030650;v3030650;v4030650;v5000890;", "v5030650;g00170;g10170;g20170;g30170;g40170;");
+        shop("tt2;tc2;td2;tp2;tf2;tw2;y08;", "v0030650;v1030650;v2030650;v3030650;v4030650;v5000890;",
+                "v5030650;g00170;g10170;g20170;g30170;g40170;");
         // THING: REACH 4 gets to 4, of 50 in 3 .. 6 the latest.
         due("15: t, 24", x.would(0, 24, 0, 0), 6);
         due("15: t, REACH cut", x.would(0, 24, 0, 1), 4);
@@ -815,6 +816,8 @@ public final class PromisesTest {
         due("32: 20 to the 8th", x.slip(0, 8, 20, 9, 1), 25600000000L);
         due("32: one of 8 by 1 in 20: 8 times 19, in least terms", x.slip(0, 8, 20, 8, 0), 19);
         due("32: below", x.slip(0, 8, 20, 8, 1), 3200000000L);
+        x.makes(1, 1, 5);
+        due("32: 8 of 8 by 1 in 3", x.slip(1, 8, 3, 1, 0) * 10000 + x.slip(1, 8, 3, 1, 1), 256 * 10000 + 6561);
         due("32: no THING first", x.slip(2, -1, 21, 0, 2), 4000000000000000001L);
         due("32: no YEAR first", x.slip(0, -1, 21, 12, 2), 4000000000000000001L);
         due("32: no YEAR", x.slip(0, 0, 2, -1, 0), 4000000000000000001L);
