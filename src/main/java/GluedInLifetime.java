@@ -963,7 +963,8 @@ public final class GluedInLifetime {
 
         /** Below 0: no letter of a KIND. */
         private int kindAt(int place) {
-            return KIND_LETTERS.indexOf((char) letterAt(place));
+            int letter = letterAt(place);
+            return letter < 0 ? NONE : KIND_LETTERS.indexOf((char) letter);
         }
 
         private int number(int place, int digits) {

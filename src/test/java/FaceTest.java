@@ -65,6 +65,11 @@ public final class FaceTest {
                 checks.holds(m + " has a name of its own", !names.contains(m.getName()));
             }
         }
+        for (Class<?> c : GluedInLifetime.class.getDeclaredClasses()) {
+            for (Method m : c.getDeclaredMethods()) {
+                checks.holds(m + " has a name of its own", !names.contains(m.getName()));
+            }
+        }
         for (Field f : GluedInLifetime.class.getDeclaredFields()) {
             checks.holds(f + " is private", Modifier.isPrivate(f.getModifiers()) || f.isSynthetic());
             checks.holds(f + " is final, if static", !Modifier.isStatic(f.getModifiers())
